@@ -141,7 +141,8 @@ public final class PolicyWorks {
         if (rounds == 0 || !model.hasState(state) || part < SIGN_PART) {
             return refusal(part);
         }
-        return tell(bestValues, state, part);
+        hold(bestValues, state);
+        return told.tell(part);
     }
 
     public long gain(int state, int action, int part) {
@@ -161,7 +162,8 @@ public final class PolicyWorks {
         if (!inRange || !model.allReady()) {
             return refusal(part);
         }
-        return tell(findWorth(k), state, part);
+        hold(findWorth(k), state);
+        return told.tell(part);
     }
 
     public long steps(int n, int state, int part) {
@@ -170,7 +172,8 @@ public final class PolicyWorks {
             return refusal(part);
         }
         ladder.climb(model, chooser, n);
-        return tell(ladder.rows[n], state, part);
+        hold(ladder.rows[n], state);
+        return told.tell(part);
     }
 
     public int plan(int n, int state) {
@@ -270,10 +273,9 @@ public final class PolicyWorks {
         }
     }
 
-    private long tell(Row row, int state, int part) {
+    private void hold(Row row, int state) {
         told.above.copy(row.above[state]);
         told.below.copy(row.below);
-        return told.tell(part);
     }
 
     private boolean valuesAreGreatestGains() {

@@ -64,7 +64,7 @@ final class SolvingTest {
         PolicyWorks x = loops(5, 5, 5);
         checks.due("nothing to better", x.solve(), 1);
         checks.due("the first one stays", x.policy(0), 0);
-        // Under action 1 of state 0, both of its actions become as good: round 2 keeps the one it has.
+        // Round 1 leaves action 0 of state 0; once state 1 is bettered too, it is as great again, yet 1 is kept.
         x = new PolicyWorks();
         x.state();
         x.state();
@@ -73,18 +73,18 @@ final class SolvingTest {
                 x.action(s);
             }
         }
-        x.move(0, 0, 0, 1);
-        x.move(0, 1, 1, 1);
+        x.move(0, 0, 1, 1);
+        x.move(0, 1, 0, 1);
         x.move(1, 0, 1, 1);
         x.move(1, 1, 1, 1);
-        x.reward(0, 0, 2, 1);
-        x.reward(0, 1, 3, 1);
-        x.reward(1, 0, 0, 1);
+        x.reward(0, 0, 3, 1);
+        x.reward(0, 1, 2, 1);
         x.reward(1, 1, 1, 1);
         checks.due("rounds", x.solve(), 2);
-        checks.due("its own one stays", x.policy(0), 0);
-        fraction("as good", gain(x, 0, 1), 1, 4, 1);
-        fraction("as good as", gain(x, 0, 0), 1, 4, 1);
+        checks.due("its own one stays", x.policy(0), 1);
+        checks.due("bettered", x.policy(1), 1);
+        fraction("as great", gain(x, 0, 0), 1, 4, 1);
+        fraction("as great as", gain(x, 0, 1), 1, 4, 1);
     }
 
     private static void leastOfTheGreatest() {

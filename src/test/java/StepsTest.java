@@ -76,7 +76,7 @@ final class StepsTest {
         x.reward(0, 0, 1, 1);
         checks.due("the least one of as great ones", x.plan(1, 0), 0);
         x.reward(0, 0, -4, 1);
-        // Going: - 4 + 10 / 2 is as great as 1 + 1 / 2 less 1 / 2: staying is better.
+        // Going: - 4 + 5; staying: 1 + 1 / 2.
         checks.due("staying", x.plan(2, 0), 1);
         x.reward(0, 0, -7, 2);
         // Going: - 7 / 2 + 5; staying: 1 + 1 / 2.
