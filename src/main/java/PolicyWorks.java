@@ -641,13 +641,12 @@ public final class PolicyWorks {
             return part % 2 == 0 ? above.eighteen(part / 2) : below.eighteen(part / 2);
         }
 
+        // Without sign, as are all parts but the first one.
         private void reduce() {
-            int sign = above.sign;
             above.dropSign();
             Whole divisor = commonDivisor();
             above.divide(divisor, quotient);
             above.copy(quotient);
-            above.multiply(sign);
             below.divide(divisor, quotient);
             below.copy(quotient);
         }
@@ -850,14 +849,14 @@ public final class PolicyWorks {
             measure();
         }
 
-        /** The digits number 18 index and on, eighteen of them, without sign. */
+        /** Eighteen digits, the lowest ones for index 0; the number may not be below 0. */
         long eighteen(int index) {
             if (index < 0 || index > limbs.length / LIMBS_A_PART) {
                 return 0;
             }
             long digits = 0;
             for (int i = LIMBS_A_PART - 1; i >= 0; i--) {
-                digits = digits * BASE + Math.abs(limbAt(index * LIMBS_A_PART + i));
+                digits = digits * BASE + limbAt(index * LIMBS_A_PART + i);
             }
             return digits;
         }

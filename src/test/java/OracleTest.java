@@ -236,7 +236,10 @@ final class OracleTest {
     public static void main(String[] args) {
         Random random = new Random(20261115);
         for (int i = 0; i < 250; i++) {
-            any(random, 1 + random.nextInt(6), i % 3).checkAll(6);
+            Both both = any(random, 1 + random.nextInt(6), i % 3);
+            both.checkAll(6);
+            change(both, random);
+            both.checkAll(6);
         }
         for (int sign = -1; sign <= 1; sign += 2) {
             longest(sign, 19, 20).checkAll(PARTS);
@@ -273,6 +276,17 @@ final class OracleTest {
         int below = 1 + random.nextInt(20);
         both.discount(random.nextInt(below), below);
         return both;
+    }
+
+    /** Some of what was set is set anew, so that nothing kept from before may be told. */
+    private static void change(Both both, Random random) {
+        int s = random.nextInt(both.n);
+        int a = random.nextInt(both.counts[s]);
+        switch (random.nextInt(3)) {
+            case 0 -> both.reward(s, a, random.nextInt(2001) - 1000, 1 + random.nextInt(20));
+            case 1 -> both.move(s, a, random.nextInt(both.n), 1 + random.nextInt(20));
+            default -> both.discount(random.nextInt(19), 19);
+        }
     }
 
     /** Sums of weights without common divisors, so that steps have the longest lower parts. */

@@ -4,6 +4,7 @@ final class SolvingTest {
 
     public static void main(String[] args) {
         notReady();
+        beginsWithTheFirstActions();
         ownActionStaysIfAsGreat();
         leastOfTheGreatest();
         twoStatesByHand();
@@ -58,6 +59,16 @@ final class SolvingTest {
         x.state();
         checks.due("a state without action", x.solve(), PolicyWorks.BAD);
         checks.due("sign of worth", x.worth(0, 0, -1), PolicyWorks.NONE);
+    }
+
+    private static void beginsWithTheFirstActions() {
+        PolicyWorks x = loops(1, 7);
+        checks.due("solve", x.solve(), 2);
+        x.reward(0, 1, 8, 1);
+        checks.due("begins anew behind a change", x.solve(), 2);
+        x.reward(0, 0, 8, 1);
+        checks.due("the first one is as great", x.solve(), 1);
+        checks.due("so it stays", x.policy(0), 0);
     }
 
     private static void ownActionStaysIfAsGreat() {
