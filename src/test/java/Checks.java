@@ -15,6 +15,13 @@ final class Checks {
         due(what, got ? 1 : 0, want ? 1 : 0);
     }
 
+    /** A fraction as its parts - 1, 0 and 1. */
+    void fraction(String what, long[] got, long sign, long above, long below) {
+        due(what + ", sign", got[0], sign);
+        due(what + ", above", got[1], above);
+        due(what + ", below", got[2], below);
+    }
+
     /** Ends the program with exit code 1 if anything was wrong, or nothing was asked. */
     void end() {
         if (wrong > 0 || asked == 0) {

@@ -25,12 +25,6 @@ final class SolvingTest {
         return x;
     }
 
-    private static void fraction(String what, long[] got, long sign, long above, long below) {
-        checks.due(what + ", sign", got[0], sign);
-        checks.due(what + ", above", got[1], above);
-        checks.due(what + ", below", got[2], below);
-    }
-
     private static long[] value(PolicyWorks x, int state) {
         return new long[] {x.value(state, -1), x.value(state, 0), x.value(state, 1)};
     }
@@ -94,8 +88,8 @@ final class SolvingTest {
         checks.due("rounds", x.solve(), 2);
         checks.due("its own one stays", x.policy(0), 1);
         checks.due("bettered", x.policy(1), 1);
-        fraction("as great", gain(x, 0, 0), 1, 4, 1);
-        fraction("as great as", gain(x, 0, 1), 1, 4, 1);
+        checks.fraction("as great", gain(x, 0, 0), 1, 4, 1);
+        checks.fraction("as great as", gain(x, 0, 1), 1, 4, 1);
     }
 
     private static void leastOfTheGreatest() {
@@ -103,8 +97,8 @@ final class SolvingTest {
         checks.due("solve", x.solve(), 2);
         checks.due("the least one of the greatest", x.policy(0), 1);
         checks.due("solve once more", x.solve(), 2);
-        fraction("value", value(x, 0), 1, 14, 1);
-        fraction("gain of a lesser one", gain(x, 0, 2), 1, 10, 1);
+        checks.fraction("value", value(x, 0), 1, 14, 1);
+        checks.fraction("gain of a lesser one", gain(x, 0, 2), 1, 10, 1);
     }
 
     private static void twoStatesByHand() {
@@ -121,10 +115,10 @@ final class SolvingTest {
         x.discount(2, 5);
         // v0 = -7/3 + 2/5 (v0 + 2 v1) / 3, v1 = 1/4 + 2/5 v0, so v0 (1 - 2/15 - 8/75) = -7/3 + 1/15 = -34/15
         checks.due("solve", x.solve(), 1);
-        fraction("v0", value(x, 0), -1, 170, 57);
-        fraction("v1", value(x, 1), -1, 215, 228);
-        fraction("gain is the value", gain(x, 0, 0), -1, 170, 57);
-        fraction("worth is the value", worth(x, 0, 1), -1, 215, 228);
+        checks.fraction("v0", value(x, 0), -1, 170, 57);
+        checks.fraction("v1", value(x, 1), -1, 215, 228);
+        checks.fraction("gain is the value", gain(x, 0, 0), -1, 170, 57);
+        checks.fraction("worth is the value", worth(x, 0, 1), -1, 215, 228);
         checks.due("behind the last digits", x.value(0, 2), 0);
         checks.due("behind the last digits, below", x.value(0, 3), 0);
         checks.due("far behind", x.value(0, Integer.MAX_VALUE), 0);
@@ -156,7 +150,7 @@ final class SolvingTest {
             checks.due("no part of a gain", x.gain(0, 0, wrong), PolicyWorks.BAD);
             checks.due("no part of a worth", x.worth(0, 0, wrong), PolicyWorks.BAD);
         }
-        fraction("all stands", value(x, 0), 1, 4, 1);
+        checks.fraction("all stands", value(x, 0), 1, 4, 1);
     }
 
     private static void worthTakesTheLastAction() {
@@ -168,14 +162,14 @@ final class SolvingTest {
             x.reward(1, a, -a, 3);
         }
         // Worth needs no solving.
-        fraction("k 0, state 0", worth(x, 0, 0), 1, 2, 1);
-        fraction("k 0, state 1", worth(x, 0, 1), 1, 1, 1);
-        fraction("k 1, state 1", worth(x, 1, 1), 1, 5, 3);
-        fraction("k 2, state 0", worth(x, 2, 0), 1, 4, 1);
-        fraction("k 3, state 1", worth(x, 3, 1), 1, 1, 1);
+        checks.fraction("k 0, state 0", worth(x, 0, 0), 1, 2, 1);
+        checks.fraction("k 0, state 1", worth(x, 0, 1), 1, 1, 1);
+        checks.fraction("k 1, state 1", worth(x, 1, 1), 1, 5, 3);
+        checks.fraction("k 2, state 0", worth(x, 2, 0), 1, 4, 1);
+        checks.fraction("k 3, state 1", worth(x, 3, 1), 1, 1, 1);
         x.reward(0, 1, 0, 1);
-        fraction("k 3 behind a change", worth(x, 3, 1), -1, 1, 1);
-        fraction("0 is 0 / 1", worth(x, 3, 0), 0, 0, 1);
+        checks.fraction("k 3 behind a change", worth(x, 3, 1), -1, 1, 1);
+        checks.fraction("0 is 0 / 1", worth(x, 3, 0), 0, 0, 1);
         checks.due("still not solved", x.count(2), 0);
     }
 
@@ -185,7 +179,7 @@ final class SolvingTest {
         x.solve();
         checks.due("solved", x.best(), true);
         checks.due("solved, once more", x.best(), true);
-        fraction("best() changes nothing", value(x, 0), 1, 18, 1);
+        checks.fraction("best() changes nothing", value(x, 0), 1, 18, 1);
         x.discount(3, 4);
         checks.due("changed", x.best(), false);
         x.solve();

@@ -27,12 +27,6 @@ final class StepsTest {
         return x;
     }
 
-    private static void fraction(String what, long[] got, long sign, long above, long below) {
-        checks.due(what + ", sign", got[0], sign);
-        checks.due(what + ", above", got[1], above);
-        checks.due(what + ", below", got[2], below);
-    }
-
     private static long[] steps(PolicyWorks x, int n, int state) {
         return new long[] {x.steps(n, state, -1), x.steps(n, state, 0), x.steps(n, state, 1)};
     }
@@ -54,17 +48,17 @@ final class StepsTest {
 
     private static void valuesByHand() {
         PolicyWorks x = stayOrGo();
-        fraction("behind 2 steps, asked first", steps(x, 2, 0), 1, 5, 1);
-        fraction("behind 0 steps", steps(x, 0, 1), 0, 0, 1);
-        fraction("behind 1 step", steps(x, 1, 0), 1, 1, 1);
-        fraction("behind 1 step, state 1", steps(x, 1, 1), 1, 10, 1);
-        fraction("behind 2 steps, state 1", steps(x, 2, 1), 1, 21, 2);
-        fraction("behind 3 steps", steps(x, 3, 0), 1, 21, 4);
-        fraction("behind 8 steps", steps(x, 8, 0), 1, 425, 64);
+        checks.fraction("behind 2 steps, asked first", steps(x, 2, 0), 1, 5, 1);
+        checks.fraction("behind 0 steps", steps(x, 0, 1), 0, 0, 1);
+        checks.fraction("behind 1 step", steps(x, 1, 0), 1, 1, 1);
+        checks.fraction("behind 1 step, state 1", steps(x, 1, 1), 1, 10, 1);
+        checks.fraction("behind 2 steps, state 1", steps(x, 2, 1), 1, 21, 2);
+        checks.fraction("behind 3 steps", steps(x, 3, 0), 1, 21, 4);
+        checks.fraction("behind 8 steps", steps(x, 8, 0), 1, 425, 64);
         x.discount(0, 7);
-        fraction("without what comes later", steps(x, 8, 0), 1, 1, 1);
+        checks.fraction("without what comes later", steps(x, 8, 0), 1, 1, 1);
         x.reward(1, 0, -5, 15);
-        fraction("behind a change", steps(x, 1, 1), -1, 1, 3);
+        checks.fraction("behind a change", steps(x, 1, 1), -1, 1, 3);
     }
 
     private static void plansByHand() {
@@ -85,23 +79,23 @@ final class StepsTest {
 
     private static void boundsByHand() {
         PolicyWorks x = stayOrGo();
-        fraction("0 steps", bound(x, 0), 1, 20, 1);
-        fraction("1 step", bound(x, 1), 1, 10, 1);
-        fraction("8 steps", bound(x, 8), 1, 5, 64);
+        checks.fraction("0 steps", bound(x, 0), 1, 20, 1);
+        checks.fraction("1 step", bound(x, 1), 1, 10, 1);
+        checks.fraction("8 steps", bound(x, 8), 1, 5, 64);
         x.reward(1, 0, -40, 3);
         x.discount(2, 3);
-        fraction("without sign", bound(x, 1), 1, 80, 3);
-        fraction("without sign, 0 steps", bound(x, 0), 1, 40, 1);
+        checks.fraction("without sign", bound(x, 1), 1, 80, 3);
+        checks.fraction("without sign, 0 steps", bound(x, 0), 1, 40, 1);
         // A state's value is what its best action earns, so a greater loss that is not taken counts nothing.
         x.reward(0, 0, -1000, 1);
-        fraction("not taken", bound(x, 0), 1, 40, 1);
+        checks.fraction("not taken", bound(x, 0), 1, 40, 1);
         x.discount(0, 1);
-        fraction("discount 0, 0 steps", bound(x, 0), 1, 40, 3);
-        fraction("discount 0, 1 step", bound(x, 1), 0, 0, 1);
+        checks.fraction("discount 0, 0 steps", bound(x, 0), 1, 40, 3);
+        checks.fraction("discount 0, 1 step", bound(x, 1), 0, 0, 1);
         x.reward(1, 0, 0, 1);
         x.reward(0, 1, 0, 1);
         x.discount(1, 2);
-        fraction("no rewards", bound(x, 0), 0, 0, 1);
+        checks.fraction("no rewards", bound(x, 0), 0, 0, 1);
     }
 
     private static void wrongArguments() {
