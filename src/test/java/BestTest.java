@@ -75,7 +75,7 @@ final class BestTest {
         }
     }
 
-    // The policy's gain is the value, but another action's is more.
+    // The policy's gain is the value, but another action's is more; all else that best() looks at is made to fit.
     private static void onlyOneGainsMore(int state, int action) throws ReflectiveOperationException {
         PolicyWorks x = Models.bare(STATES, ACTIONS);
         for (int s = 0; s < STATES; s++) {
@@ -89,6 +89,12 @@ final class BestTest {
         Object values = get(x, "bestValues");
         spoil(values, state, 2 * lowerPart(values));
         ((int[]) get(x, "bestPolicy"))[state] = action == 0 ? 1 : 0;
+        for (Object worth : (Object[]) get(x, "worths")) {
+            spoil(worth, state, 0);
+        }
+        for (int n = 1; n <= 4; n++) {
+            spoil(rowOf(x, n), state, 2 * lowerPart(rowOf(x, n)));
+        }
         checks.due("action " + action + " of " + state + " gains more", x.best(), false);
     }
 

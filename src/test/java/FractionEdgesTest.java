@@ -10,6 +10,7 @@ final class FractionEdgesTest {
         zeroIsZeroByOne();
         signs();
         lowestEighteenDigits();
+        ninesAndZerosBelowZero();
         zerosAmongTheDigits();
         eighteenAndNineteenDigitsAbove();
         eighteenAndNineteenDigitsBelow();
@@ -126,6 +127,37 @@ final class FractionEdgesTest {
             999_999_999_999_999_999L, 1_000_000_000_000_000L);
         PolicyWorks y = thousandth(-999, 1);
         checks.told("below 0", part -> y.steps(6, 0, part), -1, 999_999_999_999_999_999L, 1_000_000_000_000_000L);
+    }
+
+    private static void ninesAndZerosBelowZero() {
+        checks.sentence("Terms: the lowest eighteen digits, without sign");
+        // - 999 * 13 * 77 is - 999999, and 13 * 77 - 12 * 20 is 761.
+        PolicyWorks x = fourStates(new int[] {20, 20, 20, 17}, -999);
+        x.discount(12, 13);
+        x.solve();
+        checks.told("nines", part -> x.value(0, part), -1, 999_999, 761);
+        checks.told("nines, worth", part -> x.worth(0, 0, part), -1, 999_999, 761);
+        checks.told("nines, gain", part -> x.gain(0, 0, part), -1, 999_999, 761);
+        checks.told("nines, reduced", part -> x.steps(1, 0, part), -1, 999, 1);
+        // - 1000 * 20 * 50 is - 1000000, and 20 * 50 - 19 * 3 is 943.
+        PolicyWorks y = fourStates(new int[] {3, 20, 20, 7}, -1000);
+        y.discount(19, 20);
+        y.solve();
+        checks.told("zeros", part -> y.value(0, part), -1, 1_000_000, 943);
+        checks.told("zeros, worth", part -> y.worth(0, 0, part), -1, 1_000_000, 943);
+        checks.told("zeros, gain", part -> y.gain(0, 0, part), -1, 1_000_000, 943);
+        checks.told("zeros, reduced", part -> y.steps(1, 0, part), -1, 1000, 1);
+    }
+
+    /** State 0 earns this and leads to all by these weights; the others earn nothing and stay. */
+    private static PolicyWorks fourStates(int[] weights, int reward) {
+        PolicyWorks x = Models.bare(4, 1);
+        for (int s = 0; s < 4; s++) {
+            x.move(s, 0, s, 1);
+            x.move(0, 0, s, weights[s]);
+        }
+        x.reward(0, 0, reward, 1);
+        return x;
     }
 
     private static void zerosAmongTheDigits() {

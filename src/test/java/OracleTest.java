@@ -241,6 +241,9 @@ final class OracleTest {
             change(both, random);
             both.checkAll(6);
         }
+        for (int i = 0; i < 150; i++) {
+            roundNumbers(random).checkAll(6);
+        }
         for (int sign = -1; sign <= 1; sign += 2) {
             longest(sign, 19, 20).checkAll(PARTS);
             longest(sign, 18, 19).checkAll(PARTS);
@@ -287,6 +290,26 @@ final class OracleTest {
             case 1 -> both.move(s, a, random.nextInt(both.n), 1 + random.nextInt(20));
             default -> both.discount(random.nextInt(19), 19);
         }
+    }
+
+    /** Numbers that end in many zeros, above 0 and below it. */
+    private static Both roundNumbers(Random random) {
+        int n = 1 + random.nextInt(6);
+        int[] counts = new int[n];
+        java.util.Arrays.fill(counts, 1 + random.nextInt(2));
+        Both both = new Both(n, counts);
+        int[] weights = {0, 5, 10, 20};
+        int[] rewards = {-1000, -500, -100, -1, 0, 1, 1000};
+        for (int s = 0; s < n; s++) {
+            for (int a = 0; a < counts[s]; a++) {
+                both.reward(s, a, rewards[random.nextInt(rewards.length)], random.nextBoolean() ? 1 : 20);
+                for (int t = 0; t < n; t++) {
+                    both.move(s, a, t, t == s ? 20 : weights[random.nextInt(weights.length)]);
+                }
+            }
+        }
+        both.discount(10 * random.nextInt(2), 20);
+        return both;
     }
 
     /** Sums of weights without common divisors, so that steps have the longest lower parts. */
